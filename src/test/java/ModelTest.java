@@ -1,5 +1,7 @@
 import java.util.ArrayList;
+import java.util.HashMap;
 import java.util.List;
+import java.util.Map;
 import java.util.Random;
 
 /** All promises: the same random runs of at most 512 calls on the class and on PlainKeeper. */
@@ -9,10 +11,20 @@ public final class ModelTest {
     private static final String[] NAMES = {"row", "set", "copy", "drop", "fold", "keep", "give", "begin", "forget",
         "state", "states", "token", "cost", "change", "nearest", "groups", "group", "shape", "look", "approve",
         "approveAll", "undo", "entry", "kind", "as", "ask", "trace", "count", "status"};
+    // the refusals and FINDINGS, each of which the runs have to come to often
+    private static final int[] REFUSALS = {Due.NONE, Due.BAD, Due.STATE, Due.FULL, Due.NULL, Due.PLACE, Due.KIND,
+        Due.SIZE, Due.STORE};
     // how often each call comes, beside those that fill rows
     private static final int[] WEIGHTS = {2, 4, 3, 1, 4, 20, 26, 1, 1,
         4, 2, 8, 4, 14, 5, 3, 8, 6, 12, 14,
         12, 8, 8, 5, 8, 8, 4, 4, 4};
+
+    private static final int ROW = 0;
+    private static final int SET = 1;
+    private static final int KEEP = 5;
+    private static final int GIVE = 6;
+    private static final int APPROVE = 19;
+    private static final Map<Integer, Integer> ANSWERS = new HashMap<>();
 
     private final Random random;
     private final GoldenKeeper x;
@@ -21,6 +33,7 @@ public final class ModelTest {
     private final int names;
     private final int words;
     private final int longest;
+    private final boolean busy;
 
     private ModelTest(long seed) {
         random = new Random(seed);
@@ -28,9 +41,10 @@ public final class ModelTest {
         x = new GoldenKeeper(rules);
         y = new PlainKeeper(rules);
         calls.add("new GoldenKeeper(" + rules + ")");
-        names = random.nextInt(3) == 0 ? 12 : 1 + random.nextInt(3);
+        busy = random.nextInt(6) == 0;
+        names = busy ? 1 : random.nextInt(3) == 0 ? 12 : 1 + random.nextInt(3);
         words = 1 + random.nextInt(5);
-        longest = random.nextInt(6) == 0 ? 60 : 1 + random.nextInt(14);
+        longest = busy ? 4 : random.nextInt(6) == 0 ? 60 : 1 + random.nextInt(14);
     }
 
     public static void main(String[] args) {
@@ -41,12 +55,19 @@ public final class ModelTest {
         for (int c = 0; c < NAMES.length; c++) {
             Due.isTrue(NAMES[c] + " was called", seen[c] > 0);
         }
+        for (int refusal : REFUSALS) {
+            Due.isTrue(refusal + " was answered five hundred times", ANSWERS.getOrDefault(refusal, 0) >= 500);
+        }
         Due.end("ModelTest");
     }
 
     private void run(long seed, int[] seen) {
+        if (busy && !bringChanges()) {
+            tell(seed);
+            return;
+        }
         while (calls.size() <= CALLS) {
-            if (random.nextInt(5) == 0) {
+            if (random.nextInt(busy ? 60 : 5) == 0) {
                 if (!fillRow()) {
                     tell(seed);
                     return;
@@ -67,6 +88,10 @@ public final class ModelTest {
     }
 
     private int pick() {
+        // so that THE BOOK comes to be full
+        if (busy && random.nextInt(8) > 0) {
+            return APPROVE + random.nextInt(3);
+        }
         int sum = 0;
         for (int w : WEIGHTS) {
             sum += w;
@@ -80,17 +105,26 @@ public final class ModelTest {
         return c;
     }
 
+    /** One TOKEN comes on each PLATFORM of NAME 0. */
+    private boolean bringChanges() {
+        boolean held = same(ROW, 0, 1, 2) && same(ROW, 1, 1, 3);
+        for (int platform = 0; platform < 3 && held; platform++) {
+            held = same(KEEP, 0, platform, 0) && same(GIVE, 0, platform, 1);
+        }
+        return held;
+    }
+
     /** Makes a ROW an ANSWER, or changes some of one that may be one. */
     private boolean fillRow() {
         int row = random.nextInt(3);
         if (random.nextInt(3) == 0) {
-            return same(1, row, random.nextInt(longest), anyToken());
+            return same(SET, row, random.nextInt(longest), anyToken());
         }
         List<Integer> tokens = new ArrayList<>();
         addTokens(tokens, random.nextInt(longest + 1), 0);
-        boolean held = same(0, row, 1 + random.nextInt(2), tokens.size());
+        boolean held = same(ROW, row, 1 + random.nextInt(2), tokens.size());
         for (int i = 0; i < tokens.size() && held; i++) {
-            held = tokens.get(i) == 0 || same(1, row, i, tokens.get(i));
+            held = tokens.get(i) == 0 || same(SET, row, i, tokens.get(i));
         }
         return held;
     }
@@ -125,9 +159,9 @@ public final class ModelTest {
         int platform = below(3);
         int hand = below(random.nextBoolean() ? 1 : 4);
         int row = below(3);
-        int change = below(random.nextBoolean() ? 2 : 6);
+        int change = below(busy ? 1 : random.nextBoolean() ? 2 : 6);
         switch (NAMES[c]) {
-            case "row": return Due.of(row, below(3), below(longest + 1));
+            case "row": return Due.of(row, below(3), random.nextInt(6) == 0 ? -random.nextInt(3) : below(longest + 1));
             case "set": return Due.of(row, below(longest + 1), random.nextInt());
             case "copy": return Due.of(row, below(6), below(3), below(6), below(6));
             case "drop": return Due.of(below(8));
@@ -140,8 +174,8 @@ public final class ModelTest {
             case "shape": return Due.of(below(6), below(2), below(3));
             case "look": return Due.of(hand, name, platform, change);
             case "approve": return Due.of(hand, name, platform, change, below(2));
-            case "approveAll": return Due.of(hand, below(4), below(2));
-            case "entry": return Due.of(below(random.nextBoolean() ? 10 : 40), below(6));
+            case "approveAll": return Due.of(hand, below(busy ? 1 : 4), below(2));
+            case "entry": return Due.of(below(busy ? 100 : random.nextBoolean() ? 10 : 40), below(6));
             case "as": return Due.of(name, platform, below(4));
             case "ask": return Due.of(name, platform, below(2));
             case "states": return Due.of(below(5));
@@ -154,6 +188,7 @@ public final class ModelTest {
     private boolean same(int c, int... a) {
         int got = callX(c, a);
         int due = callY(c, a);
+        ANSWERS.merge(got, 1, Integer::sum);
         calls.add(NAMES[c] + java.util.Arrays.toString(a) + " = " + got + (got == due ? "" : ", due is " + due));
         return got == due;
     }
