@@ -25,6 +25,7 @@ public final class LanguageTest {
         face();
         nested();
         text();
+        library();
         Due.end("LanguageTest");
     }
 
@@ -69,20 +70,41 @@ public final class LanguageTest {
         Due.isTrue("twelve classes at most", inside.length < 12);
         for (Class<?> c : inside) {
             Due.isTrue(c + " is static", Modifier.isStatic(c.getModifiers()));
-            int fields = 0;
-            for (Field f : c.getDeclaredFields()) {
-                boolean isStatic = Modifier.isStatic(f.getModifiers());
-                fields += isStatic ? 0 : 1;
-                Due.isTrue(f + " is final, if static", !isStatic || Modifier.isFinal(f.getModifiers()));
-            }
-            Due.isTrue(c + " has twenty fields at most", fields <= 20);
+            fields(c);
+        }
+        fields(GoldenKeeper.class);
+    }
+
+    private static void fields(Class<?> c) {
+        int fields = 0;
+        for (Field f : c.getDeclaredFields()) {
+            boolean isStatic = Modifier.isStatic(f.getModifiers());
+            fields += isStatic ? 0 : 1;
+            Due.isTrue(f + " is final, if static", !isStatic || Modifier.isFinal(f.getModifiers()));
+        }
+        Due.isTrue(c + " has twenty fields at most", fields <= 20);
+    }
+
+    /** The text of the class without its comments. */
+    private static String code() throws IOException {
+        String text = Files.readString(Path.of("src/main/java/GoldenKeeper.java"));
+        text = Pattern.compile("/\\*.*?\\*/", Pattern.DOTALL).matcher(text).replaceAll("");
+        return text.replaceAll("//[^\n]*", "");
+    }
+
+    // rule 4, as far as the class uses the library; a call more needs a look at that rule first
+    private static void library() throws IOException {
+        Set<String> fine = Set.of("Arrays.copyOf", "Arrays.fill", "System.arraycopy", "Math.min", "Math.max",
+            "Integer.compare");
+        Matcher calls = Pattern.compile("\\b(Arrays|System|Math|Integer|Long|Short|Byte|Character|String|List)\\.\\w+")
+            .matcher(code());
+        while (calls.find()) {
+            Due.isTrue(calls.group() + " is of the library that is left", fine.contains(calls.group()));
         }
     }
 
     private static void text() throws IOException {
-        String text = Files.readString(Path.of("src/main/java/GoldenKeeper.java"));
-        text = Pattern.compile("/\\*.*?\\*/", Pattern.DOTALL).matcher(text).replaceAll("");
-        text = text.replaceAll("//[^\n]*", "");
+        String text = code();
         for (String word : FORBIDDEN) {
             Due.isTrue("no " + word, !Pattern.compile(word).matcher(text).find());
         }
